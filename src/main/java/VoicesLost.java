@@ -18,6 +18,8 @@ public final class VoicesLost {
   private static final int MOST_IMAGES = 4;
   private static final int MOST_VOICES = 9999;
   private static final int MOST_SUM = 99999;
+  /** Further than any GAIN. */
+  private static final int FAR = 1000000000;
 
   private static final int NO = 0;
   private static final int YES = 1;
@@ -1306,6 +1308,8 @@ public final class VoicesLost {
     private static final int MOST_PLACES = 4;
     private static final int MOST_CHOICES = 27;
     private static final int TOO_DEAR = 100;
+    private static final int CELLS = 2048;
+    private static final int CELL_SIZE = 3;
 
     private final State state;
     private final Hall hall;
@@ -1316,6 +1320,10 @@ public final class VoicesLost {
     private final int[] prices = new int[MOST_PLACES * MOST_CHOICES];
     private final int[] tried = new int[MOST_PLACES];
     private final int[] kept = new int[MOST_PLACES];
+    /** Voices met at a place, each with what it had cost; a new one takes an old one's cell. */
+    private final long[] met = new long[CELLS * CELL_SIZE];
+    private final int[] costs = new int[CELLS];
+    private int searches;
     private int faction;
     private int choices;
     private int last;
@@ -1331,6 +1339,7 @@ public final class VoicesLost {
       faction = set;
       last = Math.min(state.ordered, MOST_PLACES) - 1;
       fewest = TOO_DEAR;
+      searches++;
       layOutChoices();
       for (int place = 0; place <= last; place++) {
         priceChoices(place);
@@ -1394,9 +1403,39 @@ public final class VoicesLost {
           System.arraycopy(held, 0, voices[place + 1], 0, MOST_MEMBERS);
           hall.hold(voices[place + 1], yes | yesSets[choice], no | noSets[choice]);
           tried[place] = choice;
-          descend(place + 1, price);
+          if (!isMet(place + 1, price)) {
+            descend(place + 1, price);
+          }
         }
       }
+    }
+
+    /**
+     * Whether the same voices were met at this place before, for no more: what comes from here
+     * is no better then, and no earlier. If not, they are kept as met.
+     */
+    private boolean isMet(int place, int spent) {
+      int[] held = voices[place];
+      long low = place;
+      long middle = 0;
+      for (int member = 0; member < 4; member++) {
+        low = low << 14 | held[member];
+        middle = middle << 14 | held[4 + member];
+      }
+      long high = (long) held[8] << 14 | held[9];
+      long mixed = (low * 31 + middle) * 31 + high;
+      int cell = (int) ((mixed * 0x9E3779B97F4A7C15L) >>> 53);
+      int first = cell * CELL_SIZE;
+      int stamp = searches * 2 * TOO_DEAR;
+      boolean isSame = met[first] == low && met[first + 1] == middle && met[first + 2] == high;
+      if (isSame && costs[cell] >= stamp && costs[cell] <= stamp + spent) {
+        return true;
+      }
+      met[first] = low;
+      met[first + 1] = middle;
+      met[first + 2] = high;
+      costs[cell] = stamp + spent;
+      return false;
     }
 
     /** The last POINT, the others being so far ahead for it. */
@@ -1495,7 +1534,7 @@ public final class VoicesLost {
       hall.ask(state.present & ~first & ~second);
       int yes = hall.yes;
       int no = hall.no;
-      int best = Integer.MIN_VALUE;
+      int best = -FAR;
       for (int i = 0; i < SAYINGS.length; i++) {
         int firstYes = SAYINGS[i] == YES ? first : 0;
         int firstNo = SAYINGS[i] == NO ? first : 0;
@@ -1512,7 +1551,7 @@ public final class VoicesLost {
 
     /** What is left to the first side when the other one answers as is best for that. */
     private int answered(int place, int yes, int no) {
-      int least = Integer.MAX_VALUE;
+      int least = FAR;
       int[] next = voices[place + 1];
       for (int i = 0; i < SAYINGS.length; i++) {
         int secondYes = SAYINGS[i] == YES ? second : 0;
@@ -1550,7 +1589,7 @@ public final class VoicesLost {
       member = who;
       factor = isMost ? 1 : -1;
       places = Math.min(state.ordered, MOST);
-      best = Integer.MIN_VALUE;
+      best = -FAR;
       for (int i = 0; i < places; i++) {
         insert(state.row[i], i);
       }
@@ -1618,6 +1657,7 @@ public final class VoicesLost {
     private int[] ends = new int[64];
     private int[] tally = new int[128];
     private int[] sums = new int[64];
+    private int highest;
     int found;
     int bestSet;
     int bestMost;
@@ -1629,6 +1669,7 @@ public final class VoicesLost {
 
     void search(int most, boolean isKept) {
       found = 0;
+      highest = 0;
       for (int member = 0; member < MOST_MEMBERS; member++) {
         begin[member] = 1;
         least[member] = most;
@@ -1687,12 +1728,13 @@ public final class VoicesLost {
       int at = found * MOST;
       ends = roomFor(ends, at + MOST);
       System.arraycopy(held, 0, ends, at, MOST);
+      highest = Math.max(highest, state.sumOf(held, (1 << state.members) - 1));
     }
 
     /** Twice as large each time, so that all that is ever made stays small. */
     private static int[] roomFor(int[] row, int size) {
       int length = row.length;
-      while (length < size) {
+      for (int i = 0; i < 30 && length < size; i++) {
         length *= 2;
       }
       if (length == row.length) {
@@ -1707,6 +1749,7 @@ public final class VoicesLost {
       bestSet = 1;
       bestMost = found;
       sums = roomFor(sums, found);
+      tally = roomFor(tally, highest + 1);
       for (int set = 1; set < 1 << state.members; set++) {
         int most = mostWithOneSum(set);
         if (set == 1 || most < bestMost) {
@@ -1717,16 +1760,12 @@ public final class VoicesLost {
     }
 
     private int mostWithOneSum(int set) {
-      int highest = 0;
-      for (int i = 0; i < found; i++) {
-        sums[i] = sumOfEnds(i, set);
-        highest = Math.max(highest, sums[i]);
-      }
-      tally = roomFor(tally, highest + 1);
       int most = 0;
       for (int i = 0; i < found; i++) {
-        tally[sums[i]]++;
-        most = Math.max(most, tally[sums[i]]);
+        int sum = sumOfEnds(i, set);
+        sums[i] = sum;
+        tally[sum]++;
+        most = tally[sum] > most ? tally[sum] : most;
       }
       for (int i = 0; i < found; i++) {
         tally[sums[i]] = 0;
@@ -1736,10 +1775,12 @@ public final class VoicesLost {
 
     private int sumOfEnds(int which, int set) {
       int sum = 0;
-      for (int member = 0; member < MOST; member++) {
-        if ((set >> member & 1) == 1) {
-          sum += ends[which * MOST + member];
+      int at = which * MOST;
+      for (int rest = set; rest != 0; rest >>= 1) {
+        if ((rest & 1) == 1) {
+          sum += ends[at];
         }
+        at++;
       }
       return sum;
     }
