@@ -113,12 +113,12 @@ public final class VoicesLost {
       return NONE;
     }
     int fault = ruleText.read(tape, bytes);
+    bytes = 0;
     if (fault != 0) {
       return -2 - fault;
     }
     rules[told] = new Rule(ruleText.code, ruleText.size);
     told++;
-    bytes = 0;
     return told - 1;
   }
 

@@ -10,7 +10,9 @@ public final class FaultsTest {
     rulesTaken();
     ruleFaults();
     ruleBounds();
-    textsStay();
+    badCouncilStays();
+    badRuleEmptiesTape();
+    tapeStaysWithSixRules();
     Calls.finish();
   }
 
@@ -29,9 +31,9 @@ public final class FaultsTest {
   private static void badRule(String text, int place, int kind) {
     VoicesLost x = new VoicesLost();
     Calls.due("rule '" + text + "'", Calls.rule(x, text), answer(place, kind));
+    Calls.due("tape behind '" + text + "'", x.count(9), 0);
     Calls.dueStatus("rule '" + text + "'", x, 0, 0);
     Calls.due("rules of '" + text + "'", x.count(2), 0);
-    Calls.due("tape of '" + text + "'", x.count(9), text.length());
   }
 
   private static void goodRule(String text) {
@@ -198,8 +200,8 @@ public final class FaultsTest {
     badRule(nine + " or 1 & 1", nine.length() + 6, 0);
   }
 
-  /** A text that is refused lets all be as it was, and is not counted. */
-  private static void textsStay() {
+  /** A COUNCIL with a FAULT lets all be as it was, the TAPE too. */
+  private static void badCouncilStays() {
     VoicesLost x = Calls.with("members 2;point 1 2;voices 4 5", "no");
     Calls.order(x, 0);
     x.vote(0);
@@ -209,8 +211,39 @@ public final class FaultsTest {
     Calls.due("still the turn", x.count(5), 1);
     Calls.due("still the tape", x.count(9), 10);
     Calls.due("mended", x.end(9) * 100 + x.council(), 903);
-    Calls.due("bad rule", Calls.rule(x, "no if"), answer(5, 0));
-    Calls.due("still the rules", x.count(2), 1);
-    Calls.due("mended rule", x.end(2) * 100 + x.rule(), 201);
+    Calls.dueStatus("bad council", x, 0, 0);
+  }
+
+  /** The TAPE is empty behind a RULE with a FAULT, wherever this lies; all else is as it was. */
+  private static void badRuleEmptiesTape() {
+    VoicesLost x = Calls.with("members 2;point 1 2", "no");
+    Calls.due("a fault at the end", Calls.rule(x, "no if"), answer(5, 0));
+    Calls.due("tape behind it", x.count(9), 0);
+    Calls.due("nothing is left to be cut", x.end(2), VoicesLost.NONE);
+    Calls.due("a fault at the begin", Calls.rule(x, "maybe"), answer(0, 0));
+    Calls.due("tape behind it", x.count(9), 0);
+    Calls.due("a fault in a number", Calls.rule(x, "yes if 123456=turn;no"), answer(7, 1));
+    Calls.due("tape behind it", x.count(9), 0);
+    Calls.due("an empty text", x.rule(), answer(0, 0));
+    Calls.due("no room is taken", x.feed(0x6e6f2020, 0x20202020, 0x20202020, 0x20202020, 0x20202020), 20);
+    Calls.due("the next rule", x.rule(), 1);
+    Calls.due("rules", x.count(2), 2);
+    Calls.due("members", x.count(0), 2);
+    Calls.dueStatus("bad rules", x, 0, 0);
+  }
+
+  /** With six RULES told nothing happens, whether the text has a FAULT or not. */
+  private static void tapeStaysWithSixRules() {
+    VoicesLost x = Calls.with("members 2;point 1 2", "no", "no", "no", "no", "no", "no");
+    Calls.due("a seventh", Calls.rule(x, "yes"), VoicesLost.NONE);
+    Calls.due("its tape", x.count(9), 3);
+    Calls.due("a seventh again", x.rule(), VoicesLost.NONE);
+    Calls.due("a seventh with a fault", Calls.rule(x, "no if"), VoicesLost.NONE);
+    Calls.due("its tape", x.count(9), 5);
+    Calls.due("an empty seventh", Calls.rule(x, ""), VoicesLost.NONE);
+    Calls.due("a council on the tape", Calls.rule(x, "members 3"), VoicesLost.NONE);
+    Calls.due("its bytes are the same", x.council(), 3);
+    Calls.due("rules", x.count(2), 6);
+    Calls.dueStatus("seventh rules", x, 0, 0);
   }
 }

@@ -517,8 +517,9 @@ final class Model {
       rules.add(readRule());
     } catch (Fault f) {
       return -2 - f.number;
+    } finally {
+      tape = "";
     }
-    tape = "";
     return rules.size() - 1;
   }
 

@@ -101,6 +101,7 @@ public final class ModelTest {
     } else {
       same("rule '" + text + "'", real.rule(), model.rule());
     }
+    same("tape behind '" + text + "'", real.count(9), model.count(9));
   }
 
   private void lay(String text) {
