@@ -17,6 +17,7 @@ public final class AgainTest {
     booksAgain();
     imagesApart();
     plansByTurn();
+    plansOfEach();
     spoilersWays();
     sidesByTurn();
     sidesOfFour();
@@ -123,6 +124,11 @@ public final class AgainTest {
     Calls.order(rule, 0);
     due("a day in thought", rule.open(1, 0, 1), 0);
     due("two, the second through", rule.year(2, 0, 1), 1);
+    VoicesLost ten = Calls.with("members 10;point 1 1 1 1 1 1 1 1 1-1;bent 9 0", "no if sum<=10+turn");
+    // The tenth loses each time, and the sum is one more each time.
+    due("ten members", ten.year(8, 9, 2), 9);
+    due("the tenth is as strong as nine", ten.year(9, 9, 2), 10);
+    due("eight through, the ninth is a tie", ten.year(9, 9, 0), -8);
     due("not the first", rule.year(1, 0, 1), 0);
   }
 
@@ -244,6 +250,35 @@ public final class AgainTest {
     due("the third can't spoil it", three.spoilers(1), 2);
   }
 
+  /** THROWN: each of ten MEMBERS keeps still at first, though yes were true, to keep his five voices. */
+  private static void plansOfEach() {
+    for (int member = 0; member < 10; member++) {
+      int other = (member + 1) % 10;
+      StringBuilder text = new StringBuilder("members 10;point");
+      for (int i = 0; i < 10; i++) {
+        text.append(i == member ? " 1" : " 0");
+      }
+      text.append(";point");
+      for (int i = 0; i < 10; i++) {
+        text.append(i == member ? " 2" : i == other ? " -2" : " 0");
+      }
+      text.append(";voices");
+      for (int i = 0; i < 10; i++) {
+        text.append(i == member ? " 5" : i == other ? " 3" : " 1");
+      }
+      VoicesLost x = Calls.with(text.toString());
+      Calls.order(x, 0, 1);
+      int faction = 1 << member;
+      due("one vote thrown by " + member, x.lose(faction), 1);
+      due("he keeps still: " + member, x.plan(faction, 0, member), 2);
+      due("then yes: " + member, x.plan(faction, 1, member), 1);
+      due("nobody has five against him: " + member, x.spoilers(faction), 0);
+      due("the other gives up one no", x.lose(1 << other), 1);
+      due("not at first", x.plan(1 << other, 0, other), 2);
+      due("at last", x.plan(1 << other, 1, other), 1);
+    }
+  }
+
   /** SPOILERS by a yes, by a no, by keeping still ahead of the last POINT. */
   private static void spoilersWays() {
     VoicesLost yes = Calls.with("members 4;point -1 0 -1 0;point 1 0 0 1");
@@ -291,6 +326,13 @@ public final class AgainTest {
     Calls.order(x, 0);
     due("at once", x.sides(1, 2, 0), 7);
     due("by a yes", x.sides(1, 2, 1), 1);
+    VoicesLost lost = Calls.with("members 3;point 0 0 0;point 0 3 0;voices 1 2 9;bent 2 0", "no if left=1");
+    Calls.order(lost, 0, 1);
+    // Both lose the first on purpose, by a yes against nine: two voices against three at the second.
+    due("a yes to lose", lost.sides(1, 2, 0), -3);
+    due("nothing helps", lost.sides(1, 2, 1), 1);
+    due("the other way round", lost.sides(2, 1, 0), 3);
+    due("by a yes, too", lost.sides(2, 1, 1), 1);
   }
 
   /** CHAIR: each order of the POINTS is looked at, the lesser ahead. */
