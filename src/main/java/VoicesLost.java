@@ -623,7 +623,7 @@ public final class VoicesLost {
     int number(int least, int most) {
       int first = at;
       int value = 0;
-      while (isDigitHere()) {
+      while (at < length && isDigitHere()) {
         if (at - first < MOST_DIGITS) {
           value = value * 10 + text[at] - '0';
         }
@@ -1775,12 +1775,11 @@ public final class VoicesLost {
 
     private int sumOfEnds(int which, int set) {
       int sum = 0;
-      int at = which * MOST;
-      for (int rest = set; rest != 0; rest >>= 1) {
-        if ((rest & 1) == 1) {
-          sum += ends[at];
+      int first = which * MOST;
+      for (int member = 0; member < MOST; member++) {
+        if ((set >> member & 1) == 1) {
+          sum += ends[first + member];
         }
-        at++;
       }
       return sum;
     }

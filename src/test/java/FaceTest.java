@@ -125,7 +125,20 @@ public final class FaceTest {
       }
     }
     check(!Pattern.compile("while \\(true\\)|for \\([^;]*;\\s*;").matcher(code).find(), "a loop without an end");
+    loops(code);
     lengths(all.split("\n", -1));
+  }
+
+  /** A loop's own head holds something against a bound; a shift alone may never come to its end. */
+  private static void loops(String code) {
+    Matcher head = Pattern.compile("\\b(for|while) (\\(.*\\)) \\{").matcher(code);
+    int found = 0;
+    while (head.find()) {
+      found++;
+      check(head.group(2).replaceAll("<<|>>", "").matches(".*[<>].*"), "no bound in " + head.group());
+    }
+    int all = Pattern.compile("\\b(for|while|do)\\b").split(code, -1).length - 1;
+    check(found == all, found + " heads of " + all + " loops");
   }
 
   /** A method begins with a line that ends in ") {" at the depth of members and ends with its brace. */
